@@ -317,6 +317,7 @@ public final class PinHall {
                 return team;
             }
         }
+        // Never reached: no two teams have the same rank, so one has this one.
         return NONE;
     }
 
@@ -885,12 +886,12 @@ public final class PinHall {
         final int[] rests = new int[2];
         final boolean[] areIn = new boolean[2];
         /** Whose turn it is, 0 or 1; the winner once the leg is won. */
-        int turn = 0;
-        int left = TURN;
+        int turn;
+        int left;
         int restBefore;
         boolean wasInBefore;
-        int bustCount = 0;
-        boolean isWon = false;
+        int bustCount;
+        boolean isWon;
         /** The best way out, from its first dart on; findWay tells how much of it holds. */
         final int[] way = new int[TURN];
 

@@ -14,6 +14,7 @@ public final class GamesTest {
         fix();
         fixRegroups();
         fixRefused();
+        fixUndecides();
         standing();
         score();
         scoreOfLastFrame();
@@ -212,6 +213,21 @@ public final class GamesTest {
                 () -> hall.fix(spare, 9, 10, false));
     }
 
+    private static void fixUndecides() {
+        PinHall hall = Halls.withPlayers(1);
+        hall.begin(0, 0);
+        Halls.rollAll(hall, 0, 3, 4);
+        CHECKS.due("9: 3 and 4", hall.score(0, 0), 7);
+        hall.fix(0, 1, 7, false);
+        CHECKS.refused("9: a spare without a roll", NoSuchElementException.class, () -> hall.score(0, 0));
+        hall.fix(0, 1, 4, false);
+        CHECKS.refused("5: a foul with 8 of 7", IllegalArgumentException.class, () -> hall.fix(0, 1, 8, true));
+        CHECKS.due("5: is not kept as a foul", hall.score(0, 0), 7);
+        hall.fix(0, 1, 4, true);
+        CHECKS.refused("5: 8 of 7", IllegalArgumentException.class, () -> hall.fix(0, 1, 8, false));
+        CHECKS.due("5: leaves the foul", hall.score(0, 0), 3);
+    }
+
     private static void standing() {
         PinHall hall = Halls.withPlayers(1);
         CHECKS.refused("6: no game", IndexOutOfBoundsException.class, () -> hall.rolls(0));
@@ -297,6 +313,10 @@ public final class GamesTest {
         CHECKS.refused("10: frame -1", IllegalArgumentException.class, () -> hall.frame(0, -1));
         CHECKS.refused("10: frame 10", IllegalArgumentException.class, () -> hall.frame(0, 10));
         CHECKS.due("10: no roll", hall.frame(0, 0), '-');
+        int struck = hall.begin(0, 0);
+        hall.roll(struck, 10, false);
+        CHECKS.due("10: no roll after a strike", hall.frame(struck, 1), '-');
+        CHECKS.due("10: no roll in the last frame", hall.frame(struck, 9), '-');
         hall.roll(0, 0, false);
         CHECKS.due("10: one roll", hall.frame(0, 0), '-');
         Halls.rollAll(hall, 0, 10, 10, 3, 4, 10, 10, 10, 10, 10, 10);

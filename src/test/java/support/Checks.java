@@ -11,15 +11,21 @@ final class Checks {
         }
     }
 
-    /** Wants just this exception, none of its subclasses: the machine's own are subclasses of those that are due. */
     void refused(String what, Class<? extends RuntimeException> want, Runnable call) {
         String got = "nothing thrown";
         try {
             call.run();
         } catch (RuntimeException e) {
-            got = e.getClass().getName();
+            got = nameOf(e);
         }
-        due(what, got, want.getName());
+        due(what, got, want.getSimpleName());
+    }
+
+    /** The name of an exception, marked if PinHall did not throw it itself: the machine or the library did. */
+    static String nameOf(Throwable e) {
+        StackTraceElement[] trace = e.getStackTrace();
+        boolean isThrown = trace.length > 0 && trace[0].getClassName().startsWith("PinHall");
+        return e.getClass().getSimpleName() + (isThrown ? "" : " that PinHall does not throw itself");
     }
 
     void end() {
